@@ -1,0 +1,166 @@
+/** Promises 31 and 32: undo and digest. */
+public final class StateTest {
+    public static void main(String[] args) {
+        undoGoesBackStepByStep();
+        fourStatesAreSaved();
+        undoBringsEverythingBack();
+        undoLeavesTheText();
+        digestOfANewObject();
+        digestSeesEverything();
+        digestIsTheSumOfTheAnswers();
+        Check.end("StateTest");
+    }
+
+    private static void undoGoesBackStepByStep() {
+        PresenceGrants x = new PresenceGrants();
+        Check.fails("undo of a new object", x, Check.STATE, () -> x.undo());
+        x.ask(0, 1);
+        x.ask(0, 2);
+        x.ask(0, 3);
+        Check.same("undo", x.undo(), 2);
+        Check.same("version", x.version(0, -1), 2);
+        Check.same("undo", x.undo(), 1);
+        x.ask(0, 4);
+        x.ask(0, 5);
+        Check.same("undo", x.undo(), 2);
+        Check.same("undo", x.undo(), 1);
+        Check.same("undo", x.undo(), 0);
+        Check.same("version", x.version(0, -1), 0);
+        Check.fails("undo of nothing", x, Check.STATE, () -> x.undo());
+    }
+
+    private static void fourStatesAreSaved() {
+        PresenceGrants x = new PresenceGrants();
+        for (int other = 1; other < 6; other++) {
+            x.ask(0, other);
+        }
+        x.ask(1, 0);
+        Check.same("undo", x.undo(), 3);
+        Check.same("undo", x.undo(), 2);
+        Check.same("undo", x.undo(), 1);
+        Check.same("undo", x.undo(), 0);
+        Check.same("the oldest were dropped", x.version(0, -1), 2);
+        Check.fails("undo", x, Check.STATE, () -> x.undo());
+        Check.same("the oldest were dropped", x.entry(0, 2), 4);
+    }
+
+    private static void undoBringsEverythingBack() {
+        PresenceGrants x = busyOnce();
+        long before = x.digest();
+        Runnable[] calls = {
+            () -> x.ask(4, 2), () -> x.grant(3, 2), () -> x.refuse(1, 0), () -> x.stop(0, 1),
+            () -> x.block(1, 0, true), () -> x.turnOn(1, 0, 9, 4), () -> x.turnOff(1, 1), () -> x.deliver(1),
+            () -> x.lose(0), () -> x.carryOut(),
+        };
+        for (int i = 0; i < calls.length; i++) {
+            calls[i].run();
+            Check.same("digest after call " + i, x.digest() == before, false);
+            x.undo();
+            Check.same("digest after call " + i + " and its undo", x.digest(), before);
+        }
+    }
+
+    /** Users 0 and 1 see each other or are about to, other pairs wait; one state is saved. */
+    private static PresenceGrants busyOnce() {
+        PresenceGrants x = new PresenceGrants();
+        Check.write(x, "i00;i01;i10;i11;a01;d09;g10;d09;a10;a23;d01;g01;i02;a45;a32;");
+        Check.same("carried out", x.carryOut(), 15);
+        x.clearText();
+        return x;
+    }
+
+    private static PresenceGrants busy() {
+        PresenceGrants x = busyOnce();
+        x.ask(5, 0);
+        x.ask(5, 1);
+        x.ask(5, 2);
+        return x;
+    }
+
+    private static void undoLeavesTheText() {
+        PresenceGrants x = new PresenceGrants();
+        Check.write(x, "a01;");
+        x.carryOut();
+        x.append(97);
+        x.undo();
+        Check.same("the text stays", x.clearText(), 5);
+        x.ask(0, 1);
+        Check.write(x, "d0");
+        x.undo();
+        Check.same("the text stays", x.append(49), 3);
+        x.append(59);
+        Check.same("and its bytes", x.carryOut(), 1);
+    }
+
+    private static void digestOfANewObject() {
+        PresenceGrants x = new PresenceGrants();
+        long hash = 31 * 3191L;
+        for (int i = 0; i < 6 * (1 + 9 + 5 * 6); i++) {
+            boolean view = i % 40 >= 10 && (i % 40 - 10) % 6 >= 3;
+            hash = 31 * hash + (view ? -1 : 0);
+        }
+        for (int i = 0; i < 5; i++) {
+            hash = 31 * hash;
+        }
+        Check.same("digest", x.digest(), hash);
+    }
+
+    private static void digestSeesEverything() {
+        PresenceGrants x = busyOnce();
+        long before = x.digest();
+        x.append(97);
+        Check.same("the text's length", x.digest() == before, false);
+        x.clearText();
+        x.append(98);
+        long other = x.digest();
+        x.clearText();
+        x.append(97);
+        Check.same("not the text's bytes", x.digest(), other);
+        x.clearText();
+        x.deliver(0);
+        Check.same("the number of saved states", x.digest() - before, 1);
+        x.undo();
+        Check.same("back", x.digest(), before);
+        x.undo();
+        Check.same("new, with no state saved", x.digest(), new PresenceGrants().digest());
+    }
+
+    private static void digestIsTheSumOfTheAnswers() {
+        PresenceGrants x = busy();
+        x.block(2, 4, true);
+        x.lose(1);
+        Check.write(x, "abc");
+        Check.same("digest", x.digest(), digestByAnswers(x, 3, 4, 2, 4));
+        x.undo();
+        Check.same("digest", x.digest(), digestByAnswers(x, 3, 3, 2, 4));
+    }
+
+    /** The digest from what the methods answer; one user blocks one other. */
+    private static long digestByAnswers(PresenceGrants x, int length, int saved, int blocking, int blocked) {
+        long h = 31 * 3191L + length;
+        for (int user = 0; user < 6; user++) {
+            h = 31 * h + x.version(user, -1);
+            for (int i = 0; i < 9; i++) {
+                h = 31 * h + x.seat(user, i / 3, i % 3);
+            }
+            for (int other = 0; other < 6; other++) {
+                if (other != user) {
+                    h = 31 * h + x.entry(user, other);
+                    h = 31 * h + x.version(user, other);
+                    h = 31 * h + (user == blocking && other == blocked ? 1 : 0);
+                    for (int seat = 0; seat < 3; seat++) {
+                        h = 31 * h + x.view(user, other, seat);
+                    }
+                }
+            }
+        }
+        for (int what = 0; what < 3; what++) {
+            h = 31 * h + x.count(what);
+        }
+        h = 31 * h + x.underWay();
+        for (int i = 0; i < x.underWay() * 5; i++) {
+            h = 31 * h + x.message(i / 5, i % 5);
+        }
+        return 31 * h + saved;
+    }
+}
