@@ -32,6 +32,8 @@ public final class PresenceGrants {
     private static final int COUNTS = 3;
     private static final int MOST_ARRIVALS = 1000;
 
+    private static final int MORE_THAN_ALL_PAIRS = USERS * USERS;
+
     private static final int SEAT_VALUES = 3;
 
     private static final int MOST_TEXT = 100;
@@ -222,15 +224,14 @@ public final class PresenceGrants {
     public int mostNeeded() {
         trial.copyFrom(now);
         int pairsWithAll = trial.matchingPairsAtRest();
-        // Here and gone change no marks: where no room is lacking, their loss needs no trial.
-        boolean canSkip = pairsWithAll != NONE && trial.post.counts[LOST] == now.post.counts[LOST];
         int needed = NONE;
-        int least = Integer.MAX_VALUE;
+        int least = MORE_THAN_ALL_PAIRS;
         int size = now.post.size;
         for (int index = 0; index < size; index++) {
             int pairs = pairsWithAll;
-            boolean isOfSeat = Post.part(now.post.messageAt(index), 3) != NONE;
-            if (!canSkip || !isOfSeat) {
+            // Here and gone change no marks, nor does the room that they take: what an arriving message sends
+            // first finds the room that it left, and only that can be a grant or a refuse.
+            if (!now.post.isOfSeat(index)) {
                 trial.copyFrom(now);
                 trial.post.loseAt(index);
                 pairs = trial.matchingPairsAtRest();
@@ -889,6 +890,10 @@ public final class PresenceGrants {
 
         int messageAt(int index) {
             return ring[slot(index)];
+        }
+
+        boolean isOfSeat(int index) {
+            return part(messageAt(index), 3) != NONE;
         }
 
         void put(int message) {

@@ -285,7 +285,7 @@ public final class AsksTest {
         Check.same("end of no block", x.block(0, 1, false), 0);
         Check.same("underWay stays", x.underWay(), 3);
         Check.settle(x);
-        Check.views("shown again", x, 0, 1, -1, 3, -1);
+        Check.views("shown again", x, 0, 1, 3, -1, -1);
     }
 
     private static void blockEndsUnseenOrAbsent() {
@@ -374,15 +374,15 @@ public final class AsksTest {
         Check.pairFails("end of block", x, (o, a, b) -> o.block(a, b, false));
     }
 
-    /** Users 0 (seats 0 and 2, moods 1 and 2) and 1 (seat 1, mood 3) see each other. */
+    /** Users 0 (seats 0 and 2, moods 1 and 2) and 1 (seat 0, mood 3) see each other. */
     private static PresenceGrants friends() {
         PresenceGrants x = new PresenceGrants();
         x.turnOn(0, 2, 0, 2);
         x.turnOn(0, 0, 0, 1);
-        x.turnOn(1, 1, 0, 3);
+        x.turnOn(1, 0, 0, 3);
         Check.letSee(x, 0, 1);
         Check.letSee(x, 1, 0);
-        Check.views("friends", x, 0, 1, -1, 3, -1);
+        Check.views("friends", x, 0, 1, 3, -1, -1);
         Check.views("friends", x, 1, 0, 1, -1, 2);
         return x;
     }

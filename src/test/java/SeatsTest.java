@@ -120,7 +120,9 @@ public final class SeatsTest {
         Check.message("gone", x, 0, 5, 2, 1, 0, -1);
         Check.message("gone", x, 1, 5, 2, 5, 0, -1);
         Check.views("still there", x, 2, 0, -1, 3, -1);
+        int sent = x.count(0);
         Check.settle(x);
+        Check.same("a gone has no answer", x.count(0), sent);
         Check.same("turnOff of the last one", x.turnOff(2, 2), 0);
         Check.same("underWay", x.underWay(), 2);
         Check.message("gone", x, 0, 5, 2, 1, 2, -1);

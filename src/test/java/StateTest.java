@@ -3,6 +3,7 @@ public final class StateTest {
     public static void main(String[] args) {
         undoGoesBackStepByStep();
         fourStatesAreSaved();
+        fourStatesOfMany();
         undoBringsEverythingBack();
         undoLeavesTheText();
         digestOfANewObject();
@@ -42,6 +43,22 @@ public final class StateTest {
         Check.same("the oldest were dropped", x.version(0, -1), 2);
         Check.fails("undo", x, Check.STATE, () -> x.undo());
         Check.same("the oldest were dropped", x.entry(0, 2), 4);
+    }
+
+    private static void fourStatesOfMany() {
+        PresenceGrants x = new PresenceGrants();
+        for (int calls = 1; calls <= 20; calls++) {
+            if (calls % 2 == 1) {
+                x.ask(2, 3);
+            } else {
+                x.stop(2, 3);
+            }
+        }
+        for (int saved = 3; saved >= 0; saved--) {
+            Check.same("undo", x.undo(), saved);
+            Check.same("version", x.version(2, 3), 16 + saved);
+        }
+        Check.fails("undo", x, Check.STATE, () -> x.undo());
     }
 
     private static void undoBringsEverythingBack() {

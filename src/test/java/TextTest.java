@@ -5,6 +5,7 @@ public final class TextTest {
         appendEndsAtAHundred();
         clearTextTellsTheLength();
         ordersAreCarriedOut();
+        ordersBeginFromTheStateNow();
         anOrderMayFail();
         syntaxErrors();
         everySecondByte();
@@ -73,6 +74,19 @@ public final class TextTest {
         Check.write(y, "d00;d99;a01;d10;");
         y.carryOut();
         Check.same("deliver of 99, then of 10", y.count(1), 4);
+    }
+
+    private static void ordersBeginFromTheStateNow() {
+        PresenceGrants x = new PresenceGrants();
+        Check.write(x, "a01;s01;a01;s01;a01;s01;a01;s01;a01;s01;a01;s01;a01;s01;a01;s01;");
+        x.carryOut();
+        Check.write(x, "o00;");
+        x.carryOut();
+        x.deliver(1);
+        Check.write(x, "d12;");
+        x.carryOut();
+        Check.same("one arrived, and then twelve", x.count(1), 13);
+        Check.same("three are under way", x.underWay(), 3);
     }
 
     private static void anOrderMayFail() {

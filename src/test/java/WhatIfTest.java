@@ -9,6 +9,7 @@ public final class WhatIfTest {
         mostNeededTakesTheLeast();
         mostNeededTakesTheLowestOfSeveral();
         mostNeededMayHelp();
+        mostNeededLooksAtTheStateNow();
         aFullRoomIsTriedAsItIs();
         nothingIsChanged();
         Check.end("WhatIfTest");
@@ -86,7 +87,20 @@ public final class WhatIfTest {
         Check.same("a loss that makes it worse", x.mostNeeded(), 0);
     }
 
-    /** The room matters: with 300 under way the loss of one makes room for an answer more. */
+    private static void mostNeededLooksAtTheStateNow() {
+        PresenceGrants x = new PresenceGrants();
+        Check.letSee(x, 0, 1);
+        x.ask(2, 3);
+        x.lose(0);
+        Check.same("a pair that does not agree", x.agreeingAtRest(), 14);
+        x.stop(2, 3);
+        Check.settle(x);
+        x.turnOn(1, 0, 0, 0);
+        x.ask(4, 5);
+        Check.same("the ask, not the here before it", x.mostNeeded(), 1);
+    }
+
+    /** With 300 under way each probe has room for one answer, of three. */
     private static void aFullRoomIsTriedAsItIs() {
         PresenceGrants x = new PresenceGrants();
         for (int user = 0; user < 5; user++) {
