@@ -21,7 +21,6 @@ public final class AsksTest {
         blockOnBothSides();
         apartUsersGetNothing();
         allAreUndoableThoughNothingChanges();
-        wrongUsers();
         Check.end("AsksTest");
     }
 
@@ -242,7 +241,7 @@ public final class AsksTest {
     }
 
     private static void blockHidesFirst() {
-        PresenceGrants x = friends();
+        PresenceGrants x = States.friends();
         Check.same("block", x.block(0, 1, true), 1);
         Check.same("hides from the blocked one", x.underWay(), 2);
         Check.message("gone of seat 0", x, 0, 5, 0, 1, 0, -1);
@@ -272,7 +271,7 @@ public final class AsksTest {
     }
 
     private static void blockEndsWithProbeAndShow() {
-        PresenceGrants x = friends();
+        PresenceGrants x = States.friends();
         x.block(0, 1, true);
         Check.settle(x);
         Check.same("no block of the other one", x.block(1, 0, false), 0);
@@ -289,7 +288,7 @@ public final class AsksTest {
     }
 
     private static void blockEndsUnseenOrAbsent() {
-        PresenceGrants x = friends();
+        PresenceGrants x = States.friends();
         x.turnOff(0, 0);
         x.turnOff(0, 2);
         Check.settle(x);
@@ -315,7 +314,7 @@ public final class AsksTest {
     }
 
     private static void blockOnBothSides() {
-        PresenceGrants x = friends();
+        PresenceGrants x = States.friends();
         x.block(0, 1, true);
         Check.settle(x);
         int sent = x.count(0);
@@ -362,28 +361,5 @@ public final class AsksTest {
         Check.same("undo again", x.undo(), 0);
         Check.same("asked is undone", x.entry(0, 1), 0);
         Check.same("the message is undone", x.underWay(), 0);
-    }
-
-    private static void wrongUsers() {
-        PresenceGrants x = friends();
-        Check.pairFails("ask", x, (o, a, b) -> o.ask(a, b));
-        Check.pairFails("grant", x, (o, a, b) -> o.grant(a, b));
-        Check.pairFails("refuse", x, (o, a, b) -> o.refuse(a, b));
-        Check.pairFails("stop", x, (o, a, b) -> o.stop(a, b));
-        Check.pairFails("block", x, (o, a, b) -> o.block(a, b, true));
-        Check.pairFails("end of block", x, (o, a, b) -> o.block(a, b, false));
-    }
-
-    /** Users 0 (seats 0 and 2, moods 1 and 2) and 1 (seat 0, mood 3) see each other. */
-    private static PresenceGrants friends() {
-        PresenceGrants x = new PresenceGrants();
-        x.turnOn(0, 2, 0, 2);
-        x.turnOn(0, 0, 0, 1);
-        x.turnOn(1, 0, 0, 3);
-        Check.letSee(x, 0, 1);
-        Check.letSee(x, 1, 0);
-        Check.views("friends", x, 0, 1, 3, -1, -1);
-        Check.views("friends", x, 1, 0, 1, -1, 2);
-        return x;
     }
 }

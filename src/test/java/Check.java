@@ -4,24 +4,37 @@ final class Check {
     static final Class<?> INDEX = IndexOutOfBoundsException.class;
     static final Class<?> ARGUMENT = IllegalArgumentException.class;
     static final Class<?> STATE = IllegalStateException.class;
-    static final int[] NO_USERS = {-1, 6, 7, Integer.MIN_VALUE, Integer.MAX_VALUE};
-    static final int[] NO_SEATS = {-1, 3, 4, Integer.MIN_VALUE, Integer.MAX_VALUE};
+
+    private static final String[] KINDS = {"ask", "grant", "stop", "refuse", "here", "gone", "probe"};
 
     private static int made;
     private static int wrong;
-
-    interface PairCall {
-        void call(PresenceGrants x, int user, int other);
-    }
+    private static String sentence = "";
 
     private Check() {
+    }
+
+    /** The sentence of the document that the next answers belong to; it is told with each wrong one. */
+    static void sentence(String words) {
+        sentence = "'" + words + "': ";
+    }
+
+    private static void tellWrong(String what, Object got, Object due) {
+        wrong++;
+        System.out.println(sentence + what + " answered " + got + ", due is " + due);
     }
 
     static void same(String what, long got, long due) {
         made++;
         if (got != due) {
-            wrong++;
-            System.out.println(what + " answered " + got + ", due is " + due);
+            tellWrong(what, got, due);
+        }
+    }
+
+    static void same(String what, String got, String due) {
+        made++;
+        if (!got.equals(due)) {
+            tellWrong(what, got, due);
         }
     }
 
@@ -32,15 +45,13 @@ final class Check {
     static void same(String what, double got, double due) {
         made++;
         if (Double.compare(got, due) != 0) {
-            wrong++;
-            System.out.println(what + " answered " + got + ", due is " + due);
+            tellWrong(what, got, due);
         }
     }
 
-    /** The call throws just this class (none below it, as the machine throws), and changes nothing. */
-    static void fails(String what, PresenceGrants x, Class<?> due, Runnable call) {
+    /** The call throws just this class (none below it, as the machine throws). */
+    static void throwsJust(String what, Class<?> due, Runnable call) {
         made++;
-        long before = x.digest();
         Class<?> got = null;
         try {
             call.run();
@@ -48,23 +59,29 @@ final class Check {
             got = e.getClass();
         }
         if (got != due) {
-            wrong++;
-            System.out.println(what + " throws " + got + ", due is " + due);
+            tellWrong(what, got, due);
         }
+    }
+
+    /** The call throws just this class, and leaves the digest as it was. */
+    static void fails(String what, PresenceGrants x, Class<?> due, Runnable call) {
+        long before = x.digest();
+        throwsJust(what, due, call);
         same("digest after the failed " + what, x.digest(), before);
     }
 
-    /** What each method with two users throws for users that do not exist, and for the same user twice. */
-    static void pairFails(String name, PresenceGrants x, PairCall call) {
-        for (int bad : NO_USERS) {
-            fails(name + "(" + bad + ", 0)", x, INDEX, () -> call.call(x, bad, 0));
-            fails(name + "(0, " + bad + ")", x, INDEX, () -> call.call(x, 0, bad));
-            fails(name + "(" + bad + ", " + bad + ")", x, INDEX, () -> call.call(x, bad, bad));
+    /** All messages under way, such as "grant 1>0, here 1>0 2:4", with seat and mood where they have some. */
+    static void post(String what, PresenceGrants x, String due) {
+        StringBuilder told = new StringBuilder();
+        int size = x.underWay();
+        for (int i = 0; i < size; i++) {
+            told.append(i == 0 ? "" : ", ").append(KINDS[x.message(i, 0)]).append(' ');
+            told.append(x.message(i, 1)).append('>').append(x.message(i, 2));
+            int seat = x.message(i, 3);
+            int mood = x.message(i, 4);
+            told.append(seat == NONE ? "" : " " + seat).append(mood == NONE ? "" : ":" + mood);
         }
-        for (int user = 0; user < 6; user++) {
-            int same = user;
-            fails(name + " of the same user " + user, x, ARGUMENT, () -> call.call(x, same, same));
-        }
+        same(what + ": under way", told.toString(), due);
     }
 
     static void message(String what, PresenceGrants x, int index, int... parts) {

@@ -11,7 +11,6 @@ public final class RostersTest {
         wrongViewsOfEachSort();
         visibleCountsPairs();
         askingChangesNothing();
-        wrongCalls();
         Check.end("RostersTest");
     }
 
@@ -228,32 +227,5 @@ public final class RostersTest {
         x.count(0);
         Check.same("digest", x.digest(), before);
         Check.same("saved states", Check.undoAll(x), 4);
-    }
-
-    private static void wrongCalls() {
-        PresenceGrants x = new PresenceGrants();
-        Check.letSee(x, 0, 1);
-        Check.pairFails("entry", x, (o, a, b) -> o.entry(a, b));
-        Check.pairFails("areApart", x, (o, a, b) -> o.areApart(a, b));
-        Check.pairFails("agree", x, (o, a, b) -> o.agree(a, b));
-        Check.pairFails("view", x, (o, a, b) -> o.view(a, b, 2));
-        for (int bad : Check.NO_SEATS) {
-            Check.fails("view of seat " + bad, x, Check.INDEX, () -> x.view(0, 1, bad));
-            Check.fails("view of one's own seat " + bad, x, Check.INDEX, () -> x.view(0, 0, bad));
-        }
-        for (int bad : Check.NO_USERS) {
-            Check.fails("version(" + bad + ", 0)", x, Check.INDEX, () -> x.version(bad, 0));
-            Check.fails("version(" + bad + ", NONE)", x, Check.INDEX, () -> x.version(bad, -1));
-            if (bad != -1) {
-                Check.fails("version(0, " + bad + ")", x, Check.INDEX, () -> x.version(0, bad));
-            }
-            Check.fails("changedSince of user " + bad, x, Check.INDEX, () -> x.changedSince(bad, 0));
-            Check.fails("changedSince(" + bad + ", -1)", x, Check.INDEX, () -> x.changedSince(bad, -1));
-            Check.fails("wrongViews(" + bad + ")", x, Check.INDEX, () -> x.wrongViews(bad));
-        }
-        Check.fails("version(0, -2)", x, Check.INDEX, () -> x.version(0, -2));
-        Check.fails("version(4, 4)", x, Check.ARGUMENT, () -> x.version(4, 4));
-        Check.fails("changedSince(0, -1)", x, Check.ARGUMENT, () -> x.changedSince(0, -1));
-        Check.fails("changedSince(0, lowest)", x, Check.ARGUMENT, () -> x.changedSince(0, Integer.MIN_VALUE));
     }
 }

@@ -62,7 +62,7 @@ public final class StateTest {
     }
 
     private static void undoBringsEverythingBack() {
-        PresenceGrants x = busyOnce();
+        PresenceGrants x = States.busyOnce();
         long before = x.digest();
         Runnable[] calls = {
             () -> x.ask(4, 2), () -> x.grant(3, 2), () -> x.refuse(1, 0), () -> x.stop(0, 1),
@@ -75,23 +75,6 @@ public final class StateTest {
             x.undo();
             Check.same("digest after call " + i + " and its undo", x.digest(), before);
         }
-    }
-
-    /** Users 0 and 1 see each other or are about to, other pairs wait; one state is saved. */
-    private static PresenceGrants busyOnce() {
-        PresenceGrants x = new PresenceGrants();
-        Check.write(x, "i00;i01;i10;i11;a01;d09;g10;d09;a10;a23;d01;g01;i02;a45;a32;");
-        Check.same("carried out", x.carryOut(), 15);
-        x.clearText();
-        return x;
-    }
-
-    private static PresenceGrants busy() {
-        PresenceGrants x = busyOnce();
-        x.ask(5, 0);
-        x.ask(5, 1);
-        x.ask(5, 2);
-        return x;
     }
 
     private static void undoLeavesTheText() {
@@ -123,7 +106,7 @@ public final class StateTest {
     }
 
     private static void digestSeesEverything() {
-        PresenceGrants x = busyOnce();
+        PresenceGrants x = States.busyOnce();
         long before = x.digest();
         x.append(97);
         Check.same("the text's length", x.digest() == before, false);
@@ -143,7 +126,7 @@ public final class StateTest {
     }
 
     private static void digestIsTheSumOfTheAnswers() {
-        PresenceGrants x = busy();
+        PresenceGrants x = States.busy();
         x.block(2, 4, true);
         x.lose(1);
         Check.write(x, "abc");

@@ -102,21 +102,11 @@ public final class WhatIfTest {
 
     /** With 300 under way each probe has room for one answer, of three. */
     private static void aFullRoomIsTriedAsItIs() {
-        PresenceGrants x = new PresenceGrants();
-        for (int user = 0; user < 5; user++) {
-            Check.letSee(x, user, 5);
-        }
-        for (int seat = 0; seat < 3; seat++) {
-            x.turnOn(5, seat, 0, 0);
-        }
-        Check.settle(x);
+        PresenceGrants x = States.crowd();
         for (int user = 0; user < 5; user++) {
             x.turnOn(user, 0, 0, 0);
         }
-        for (int i = 0; i < 59; i++) {
-            x.turnOn(5, 0, 0, i % 5);
-        }
-        Check.same("full", x.underWay(), 300);
+        States.fill(x, 300);
         Check.same("each probe has one answer with room", x.untilRest(), 305);
         Check.same("agreeing at rest", x.agreeingAtRest(), 15);
         Check.same("none is needed", x.mostNeeded(), 0);
