@@ -73,17 +73,11 @@ public final class ArrivalsTest {
         Check.post(what, x, sent);
     }
 
-    private static void loseAll(PresenceGrants x) {
-        for (int left = x.underWay(); left > 0; left--) {
-            x.lose(0);
-        }
-    }
-
     private static void askArrives(int seeing, int seen, int seats) {
         Check.sentence("ask: if seen is set, b sends a grant to a and shows itself to a; otherwise asking is set");
         PresenceGrants x = seated(seats, seeing + seen);
         x.stop(1, 0);
-        loseAll(x);
+        States.loseAll(x);
         x.ask(1, 0);
         String shown = seats == 0 ? "" : ", " + shown(seats);
         arrives("marks " + (seeing + seen) + ", seats " + seats, x, seeing + (seen == 2 ? 2 : 8),
@@ -95,7 +89,7 @@ public final class ArrivalsTest {
         PresenceGrants x = seated(seats, seeing + seen);
         if (seen == 0) {
             x.ask(1, 0);
-            loseAll(x);
+            States.loseAll(x);
         }
         x.stop(1, 0);
         arrives("marks " + (seeing + seen) + ", seats " + seats, x, seeing, seen == 0 ? "" : hidden(seats));
@@ -108,12 +102,12 @@ public final class ArrivalsTest {
             x.ask(0, 1);
             Check.settle(x);
             x.stop(0, 1);
-            loseAll(x);
+            States.loseAll(x);
         }
         if (seeing == 1) {
             // Two asks meet seen, so that a second grant finds sees set by the first one.
             x.stop(0, 1);
-            loseAll(x);
+            States.loseAll(x);
             x.ask(0, 1);
             x.stop(0, 1);
             x.lose(1);
@@ -138,7 +132,7 @@ public final class ArrivalsTest {
             x.ask(0, 1);
             Check.settle(x);
             x.stop(0, 1);
-            loseAll(x);
+            States.loseAll(x);
         }
         x.refuse(1, 0);
         for (int left = x.underWay(); left > 1; left--) {
@@ -157,7 +151,7 @@ public final class ArrivalsTest {
         if (seeing == 4) {
             x.ask(0, 1);
         }
-        loseAll(x);
+        States.loseAll(x);
         Check.same("marks", x.entry(0, 1), seeing + seen);
         return x;
     }
@@ -207,7 +201,7 @@ public final class ArrivalsTest {
             seesAndIsAsking(x);
         } else if (seen == 0) {
             x.refuse(0, 1);
-            loseAll(x);
+            States.loseAll(x);
         }
         Check.same("user 1 sees", x.entry(1, 0) & 1, 1);
         x.turnOn(1, 1, 0, 4);
@@ -312,7 +306,7 @@ public final class ArrivalsTest {
         unseen.turnOff(1, 0);
         unseen.turnOff(1, 1);
         unseen.refuse(0, 1);
-        loseAll(unseen);
+        States.loseAll(unseen);
         nothingHappens("probe that meets no seen", unseen, x -> {
             x.turnOn(1, 2, 0, 4);
             x.lose(1);

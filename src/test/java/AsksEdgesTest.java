@@ -4,14 +4,13 @@ public final class AsksEdgesTest {
     private static final int SEEN = 2;
     private static final int ASKED = 4;
     private static final int ASKING = 8;
-    private static final int[] MARKS = {0, 1, 2, 3, 4, 6, 8, 9, 12};
 
     private interface PairCall {
         int on(PresenceGrants x);
     }
 
     public static void main(String[] args) {
-        for (int marks : MARKS) {
+        for (int marks : States.MARKS) {
             askWith(marks);
             grantWith(marks);
             refuseWith(marks);

@@ -1,7 +1,5 @@
 /** The boundary cases that the document's 'Description' names, but for what arrives, script text and undo. */
 public final class DescriptionTest {
-    private static final int[] MARKS = {0, 1, 2, 3, 4, 6, 8, 9, 12};
-
     public static void main(String[] args) {
         theLastCallOfAll();
         firstAndLastUserAndSeat();
@@ -123,16 +121,12 @@ public final class DescriptionTest {
     private static void entriesAreNotSetAtFirst() {
         Check.sentence("four marks, all initially not set");
         PresenceGrants x = new PresenceGrants();
-        for (int i = 0; i < 36; i++) {
-            if (i / 6 != i % 6) {
-                Check.same("entry", x.entry(i / 6, i % 6), 0);
-            }
-        }
+        States.eachPair((user, other) -> Check.same("entry", x.entry(user, other), 0));
     }
 
     private static void stateOfAnEntry() {
         Check.sentence("The state of an entry is the number 1 * sees + 2 * seen + 4 * asked + 8 * asking");
-        for (int marks : MARKS) {
+        for (int marks : States.MARKS) {
             PresenceGrants x = States.marked(marks);
             Check.same("entry", x.entry(0, 1), marks);
             Check.same("entry of the other", x.entry(1, 0), (marks & 5) << 1 | (marks & 10) >> 1);
@@ -240,11 +234,7 @@ public final class DescriptionTest {
     private static void viewsAreNoneAtFirst() {
         Check.sentence("a user a has a view: a mood, or none (initially none)");
         PresenceGrants x = new PresenceGrants();
-        for (int i = 0; i < 36; i++) {
-            if (i / 6 != i % 6) {
-                Check.views("at first", x, i / 6, i % 6, -1, -1, -1);
-            }
-        }
+        States.eachPair((user, other) -> Check.views("at first", x, user, other, -1, -1, -1));
     }
 
     private static void apart() {
@@ -344,9 +334,7 @@ public final class DescriptionTest {
         PresenceGrants refused = States.crowd();
         refused.refuse(5, 0);
         refused.refuse(5, 4);
-        for (int left = refused.underWay(); left > 0; left--) {
-            refused.lose(0);
-        }
+        States.loseAll(refused);
         oneAnswerHasRoom("probe of one not seen", refused, x -> x.turnOn(0, 0, 0, 0), "refuse 5>0", 0);
     }
 

@@ -1,7 +1,5 @@
 /** The boundary cases of promises 16 to 23 and 27: entry, version, changedSince, view, areApart, agree and others. */
 public final class RostersEdgesTest {
-    private static final int[] MARKS = {0, 1, 2, 3, 4, 6, 8, 9, 12};
-
     public static void main(String[] args) {
         entryOfEachPair();
         versionOfRosterOrEntry();
@@ -30,23 +28,19 @@ public final class RostersEdgesTest {
 
     private static void entryOfEachPair() {
         Check.sentence("Returns the state, 0 to 15");
-        for (int pair = 0; pair < 36; pair++) {
-            int user = pair / 6;
-            int other = pair % 6;
-            if (user != other) {
-                PresenceGrants x = new PresenceGrants();
-                x.ask(user, other);
-                x.ask(other, user);
-                x.deliver(1);
-                x.grant(other, user);
-                Check.same("asked", x.entry(user, other), 4);
-                Check.same("seen and asked", x.entry(other, user), 6);
-                x.deliver(1);
-                Check.same("asked and asking", x.entry(user, other), 12);
-                x.deliver(1);
-                Check.same("sees and asking", x.entry(user, other), 9);
-            }
-        }
+        States.eachPair((user, other) -> {
+            PresenceGrants x = new PresenceGrants();
+            x.ask(user, other);
+            x.ask(other, user);
+            x.deliver(1);
+            x.grant(other, user);
+            Check.same("asked", x.entry(user, other), 4);
+            Check.same("seen and asked", x.entry(other, user), 6);
+            x.deliver(1);
+            Check.same("asked and asking", x.entry(user, other), 12);
+            x.deliver(1);
+            Check.same("sees and asking", x.entry(user, other), 9);
+        });
     }
 
     private static void versionOfRosterOrEntry() {
@@ -122,22 +116,18 @@ public final class RostersEdgesTest {
 
     private static void areApartOfEachPair() {
         Check.sentence("Tells whether two users are apart");
-        for (int pair = 0; pair < 36; pair++) {
-            int user = pair / 6;
-            int other = pair % 6;
-            if (user != other) {
-                PresenceGrants x = new PresenceGrants();
-                x.block(user, other, true);
-                Check.same("apart", apartPairs(x), 2);
-                Check.same("the one who blocks", x.areApart(user, other), true);
-                Check.same("the other one", x.areApart(other, user), true);
-                x.block(other, user, true);
-                x.block(user, other, false);
-                Check.same("the other one blocks", x.areApart(user, other), true);
-                x.block(other, user, false);
-                Check.same("none", apartPairs(x), 0);
-            }
-        }
+        States.eachPair((user, other) -> {
+            PresenceGrants x = new PresenceGrants();
+            x.block(user, other, true);
+            Check.same("apart", apartPairs(x), 2);
+            Check.same("the one who blocks", x.areApart(user, other), true);
+            Check.same("the other one", x.areApart(other, user), true);
+            x.block(other, user, true);
+            x.block(user, other, false);
+            Check.same("the other one blocks", x.areApart(user, other), true);
+            x.block(other, user, false);
+            Check.same("none", apartPairs(x), 0);
+        });
     }
 
     private static int apartPairs(PresenceGrants x) {
@@ -150,7 +140,7 @@ public final class RostersEdgesTest {
 
     private static void agreeingStates() {
         Check.sentence("each one's sees is the other one's seen, and each one's asked is the other one's asking");
-        for (int marks : MARKS) {
+        for (int marks : States.MARKS) {
             agrees("marks " + marks, States.marked(marks), true);
         }
     }
@@ -164,9 +154,7 @@ public final class RostersEdgesTest {
     private static PresenceGrants losing(int marks, Twins.Call call) {
         PresenceGrants x = States.marked(marks);
         call.on(x);
-        for (int left = x.underWay(); left > 0; left--) {
-            x.lose(0);
-        }
+        States.loseAll(x);
         return x;
     }
 

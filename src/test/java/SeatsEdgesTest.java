@@ -100,8 +100,7 @@ public final class SeatsEdgesTest {
 
     private static void probesForWhomSeesIsSet() {
         Check.sentence("for whom sees is set");
-        int[] marks = {0, 1, 2, 3, 4, 6, 8, 9, 12};
-        for (int mark : marks) {
+        for (int mark : States.MARKS) {
             PresenceGrants x = States.marked(mark);
             x.turnOn(0, 0, 0, 0);
             String probe = (mark & 1) != 0 ? "probe 0>1" : "";
@@ -150,7 +149,7 @@ public final class SeatsEdgesTest {
         Check.settle(x);
         x.turnOff(2, 0);
         Check.post("the last one", x, "gone 2>0 0, gone 2>4 0");
-        for (int mark : new int[] {0, 1, 2, 3, 4, 6, 8, 9, 12}) {
+        for (int mark : States.MARKS) {
             PresenceGrants y = States.marked(mark);
             y.turnOn(0, 1, 0, 0);
             Check.settle(y);

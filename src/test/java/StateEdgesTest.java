@@ -296,17 +296,19 @@ public final class StateEdgesTest {
 
     private static void digestOfBlocks() {
         Check.sentence("1 or 0 for whether the user blocks the other one");
-        for (int pair = 0; pair < 36; pair++) {
-            int user = pair / 6;
-            int other = pair % 6;
-            if (user != other) {
-                PresenceGrants x = new PresenceGrants();
-                x.block(user, other, true);
-                Check.same("one blocks", x.digest(), digestDue(x, 1L << pair, 1));
-                x.block(other, user, true);
-                Check.same("both block", x.digest(), digestDue(x, 1L << pair | 1L << other * 6 + user, 2));
-            }
-        }
+        States.eachPair((user, other) -> {
+            long before = new PresenceGrants().digest();
+            long first = 1L << user * 6 + other;
+            long both = first | 1L << other * 6 + user;
+            PresenceGrants x = new PresenceGrants();
+            x.block(user, other, true);
+            Check.same("one blocks", x.digest(), digestDue(x, first, 1));
+            x.block(other, user, true);
+            Check.same("both block", x.digest(), digestDue(x, both, 2));
+            x.block(user, other, false);
+            x.block(other, user, false);
+            Check.same("none blocks, four saved states", x.digest(), before + 4);
+        });
     }
 
     private static void digestOfViewsAndNone() {

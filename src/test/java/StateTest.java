@@ -8,7 +8,6 @@ public final class StateTest {
         undoLeavesTheText();
         digestOfANewObject();
         digestSeesEverything();
-        digestIsTheSumOfTheAnswers();
         Check.end("StateTest");
     }
 
@@ -123,44 +122,5 @@ public final class StateTest {
         Check.same("back", x.digest(), before);
         x.undo();
         Check.same("new, with no state saved", x.digest(), new PresenceGrants().digest());
-    }
-
-    private static void digestIsTheSumOfTheAnswers() {
-        PresenceGrants x = States.busy();
-        x.block(2, 4, true);
-        x.lose(1);
-        Check.write(x, "abc");
-        Check.same("digest", x.digest(), digestByAnswers(x, 3, 4, 2, 4));
-        x.undo();
-        Check.same("digest", x.digest(), digestByAnswers(x, 3, 3, 2, 4));
-    }
-
-    /** The digest from what the methods answer; one user blocks one other. */
-    private static long digestByAnswers(PresenceGrants x, int length, int saved, int blocking, int blocked) {
-        long h = 31 * 3191L + length;
-        for (int user = 0; user < 6; user++) {
-            h = 31 * h + x.version(user, -1);
-            for (int i = 0; i < 9; i++) {
-                h = 31 * h + x.seat(user, i / 3, i % 3);
-            }
-            for (int other = 0; other < 6; other++) {
-                if (other != user) {
-                    h = 31 * h + x.entry(user, other);
-                    h = 31 * h + x.version(user, other);
-                    h = 31 * h + (user == blocking && other == blocked ? 1 : 0);
-                    for (int seat = 0; seat < 3; seat++) {
-                        h = 31 * h + x.view(user, other, seat);
-                    }
-                }
-            }
-        }
-        for (int what = 0; what < 3; what++) {
-            h = 31 * h + x.count(what);
-        }
-        h = 31 * h + x.underWay();
-        for (int i = 0; i < x.underWay() * 5; i++) {
-            h = 31 * h + x.message(i / 5, i % 5);
-        }
-        return 31 * h + saved;
     }
 }

@@ -1,6 +1,27 @@
 /** Objects in the states that several tests begin from. */
 final class States {
+    /** All states that an entry can have. */
+    static final int[] MARKS = {0, 1, 2, 3, 4, 6, 8, 9, 12};
+
+    interface PairCall {
+        void on(int user, int other);
+    }
+
     private States() {
+    }
+
+    static void eachPair(PairCall call) {
+        for (int pair = 0; pair < 36; pair++) {
+            if (pair / 6 != pair % 6) {
+                call.on(pair / 6, pair % 6);
+            }
+        }
+    }
+
+    static void loseAll(PresenceGrants x) {
+        for (int left = x.underWay(); left > 0; left--) {
+            x.lose(0);
+        }
     }
 
     /** Users 0 (seats 0 and 2, moods 1 and 2) and 1 (seat 0, mood 3) see each other. */

@@ -201,6 +201,12 @@ public final class WhatIfEdgesTest {
 
     private static void lossesThatHelp() {
         Check.sentence("would make the number of agreeing pairs at rest least");
+        PresenceGrants late = new PresenceGrants();
+        late.ask(0, 1);
+        late.stop(0, 1);
+        late.lose(1);
+        Check.same("an ask whose stop is lost", late.agreeingAtRest(), 14);
+        Check.same("the only one, though its loss helps", late.mostNeeded(), 0);
         PresenceGrants x = States.marked(4);
         x.refuse(1, 0);
         x.stop(0, 1);
