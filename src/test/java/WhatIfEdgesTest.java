@@ -207,6 +207,14 @@ public final class WhatIfEdgesTest {
         late.lose(1);
         Check.same("an ask whose stop is lost", late.agreeingAtRest(), 14);
         Check.same("the only one, though its loss helps", late.mostNeeded(), 0);
+        Check.letSee(late, 2, 3);
+        late.ask(0, 4);
+        late.stop(0, 4);
+        late.turnOn(3, 0, 0, 0);
+        late.lose(1);
+        late.lose(1);
+        Check.post("a here and a stop are lost", late, "ask 0>4");
+        Check.same("an index that is one no more is not told", late.mostNeeded(), 0);
         PresenceGrants x = States.marked(4);
         x.refuse(1, 0);
         x.stop(0, 1);
