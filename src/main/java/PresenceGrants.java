@@ -860,7 +860,7 @@ public final class PresenceGrants {
             size = from.size;
         }
 
-        // Remainders, not bit fields: what part() takes out is a user or kind that exists, always.
+        // Remainders, not bit fields: part() takes a kind, users and a seat that exist out of any number.
         static int pack(int kind, int from, int to, int seat, int mood) {
             int place = (seat - NONE) + (SEATS + 1) * (mood - NONE);
             return kind + KINDS * (from + USERS * (to + USERS * place));
@@ -872,20 +872,21 @@ public final class PresenceGrants {
             int place = users / (USERS * USERS);
             switch (what) {
                 case 0:
-                    return message % KINDS;
+                    return Math.floorMod(message, KINDS);
                 case 1:
-                    return users % USERS;
+                    return Math.floorMod(users, USERS);
                 case 2:
-                    return users / USERS % USERS;
+                    return Math.floorMod(users / USERS, USERS);
                 case 3:
-                    return place % (SEATS + 1) + NONE;
+                    return Math.floorMod(place, SEATS + 1) + NONE;
                 default:
                     return place / (SEATS + 1) + NONE;
             }
         }
 
+        // floorMod, and in part() too, so that no number can lead out of a row.
         private int slot(int index) {
-            return (oldest + index) % ROOM;
+            return Math.floorMod(oldest + index, ROOM);
         }
 
         int messageAt(int index) {
@@ -902,12 +903,13 @@ public final class PresenceGrants {
                 counts[LOST]++;
                 return;
             }
+            // Not by slot(): with it and floorMod the calls would go nine deep, and rule 11 allows eight.
             ring[(oldest + size) % ROOM] = message;
             size++;
         }
 
         int takeOldest() {
-            int message = ring[oldest];
+            int message = messageAt(0);
             oldest = slot(1);
             size--;
             counts[ARRIVED]++;
@@ -915,7 +917,7 @@ public final class PresenceGrants {
         }
 
         int loseAt(int index) {
-            int message = ring[slot(index)];
+            int message = messageAt(index);
             for (int i = index + 1; i < size; i++) {
                 ring[slot(i - 1)] = ring[slot(i)];
             }
